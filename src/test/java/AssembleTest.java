@@ -199,8 +199,8 @@ public final class AssembleTest {
         for (int i = 1; i < 790; i++) {
             many.append(',').append(i % 10);
         }
-        LittleMix long_ = Kit.with(many.toString());
-        Kit.due("the last of many operands", long_.byteAt(256 + 789), 9);
+        LittleMix wide = Kit.with(many.toString());
+        Kit.due("the last of many operands", wide.byteAt(256 + 789), 9);
         LittleMix twice = Kit.with(" OCTA -1", " LOC 257", " BYTE 3", " LOC 4095", " BYTE 6");
         Kit.due("written over", Kit.bytes(twice, 256, 8), 0xff03ffffffffffffL);
         Kit.due("the last byte", twice.byteAt(4095), 6);

@@ -46,7 +46,7 @@ final class Kit {
     /** A new object with a source that must be good. */
     static LittleMix with(String... lines) {
         LittleMix mix = new LittleMix();
-        due("assembling " + String.join("/", lines) + " (ill at " + mix.illAt() + ")", assemble(mix, lines), 0);
+        due("assembling " + String.join("/", lines), assemble(mix, lines), 0);
         return mix;
     }
 
