@@ -29,24 +29,25 @@ public final class ArithmeticTest {
     }
 
     private static void registers(String name, long y, long mask) {
-        LittleMix mix = Kit.with(" SETL $10,2048", " LDO $1,$10,0", " LDO $2,$10,8", " LDO $4,$10,16", " PUT rD,$4", " PUT rM,$4", " SETL $3,77", " " + name + " $3,$1,$2");
+        LittleMix mix = Kit.with(" SETL $10,2048", " LDO $1,$10,0", " LDO $2,$10,8", " LDO $4,$10,16", " PUT rD,$4", " PUT rM,$4", " PUT rR,33", " PUT rH,44", " SETL $3,77",
+                " " + name + " $3,$1,$2");
         for (long z : NUMBERS) {
             Kit.store(mix, 2048, y);
             Kit.store(mix, 2056, z);
             Kit.store(mix, 2064, mask);
             mix.back();
-            Kit.due("run", mix.run(8), 8);
+            Kit.due("run", mix.run(10), 10);
             check(mix, name, y, z, mask);
         }
     }
 
     private static void numbers(String name) {
         for (int z : new int[] {0, 1, 63, 64, 255}) {
-            LittleMix mix = Kit.with(" SETL $10,2048", " LDO $1,$10,0", " SETL $3,77", " " + name + " $3,$1," + z);
+            LittleMix mix = Kit.with(" SETL $10,2048", " LDO $1,$10,0", " SETL $3,77", " PUT rR,33", " PUT rH,44", " " + name + " $3,$1," + z);
             for (long y : NUMBERS) {
                 Kit.store(mix, 2048, y);
                 mix.back();
-                Kit.due("run", mix.run(4), 4);
+                Kit.due("run", mix.run(6), 6);
                 check(mix, name, y, z, 0);
             }
         }
@@ -55,8 +56,8 @@ public final class ArithmeticTest {
     private static void check(LittleMix mix, String name, long y, long z, long mask) {
         String what = name + " of " + y + " and " + z + " (rD, rM " + mask + ")";
         rA = 0;
-        rH = 0;
-        rR = 0;
+        rH = 44;
+        rR = 33;
         reckon(name, y, z, mask);
         Kit.due(what, mix.register(3), x);
         Kit.due(what + ": rA", mix.special(21), rA);
@@ -244,7 +245,7 @@ public final class ArithmeticTest {
         LittleMix mix = null;
         for (int i = 0; i < 400; i++) {
             if (i % 20 == 0) {
-                mix = Kit.with(" SETL $10,2048", " LDO $1,$10,0", " LDO $2,$10,8", " LDO $4,$10,16", " PUT rD,$4", " DIVU $3,$1,$2");
+                mix = Kit.with(" SETL $10,2048", " LDO $1,$10,0", " LDO $2,$10,8", " LDO $4,$10,16", " PUT rD,$4", " PUT rR,33", " PUT rH,44", " DIVU $3,$1,$2");
             }
             seed = seed * 6364136223846793005L + 1442695040888963407L;
             long y = seed * 31 ^ seed >>> 17;
@@ -254,7 +255,7 @@ public final class ArithmeticTest {
             Kit.store(mix, 2056, z);
             Kit.store(mix, 2064, high);
             mix.back();
-            mix.run(6);
+            mix.run(8);
             check(mix, "DIVU", y, z, high);
         }
     }

@@ -18,6 +18,7 @@ public final class AssembleTest {
         data();
         expressions();
         lines();
+        cuts();
         Kit.end();
     }
 
@@ -44,7 +45,7 @@ public final class AssembleTest {
     }
 
     private static void memoryAndMachine() {
-        LittleMix mix = Kit.with(" SETL $1,7", " TRAP 0", "x OCTA 5");
+        LittleMix mix = Kit.with(" SETL $1,7", " TRAP 0", "x OCTA 5", " LOC 0", " OCTA 6");
         mix.run(10);
         Kit.store(mix, 4088, -1);
         Kit.due("ill", Kit.assemble(mix, " ADD"), 1);
@@ -57,6 +58,7 @@ public final class AssembleTest {
         Kit.due("memory is new", mix.byteAt(8), 9);
         Kit.due("all else is 0", Kit.bytes(mix, 4088, 8), 0);
         Kit.due("the code is gone", Kit.bytes(mix, 256, 8), 0);
+        Kit.due("the data is gone", Kit.bytes(mix, 264, 8) | Kit.bytes(mix, 0, 8), 0);
         Kit.due("set back: register", mix.register(1), 0);
         Kit.due("set back: stopped", mix.stopped(), 0);
         Kit.due("set back: place", mix.place(), 256);
@@ -215,6 +217,8 @@ public final class AssembleTest {
         value("999999999999999999", 999999999999999999L);
         value("000000000000000007", 7);
         value("-5", -5);
+        value("#0123456789abcdef", 0x0123456789abcdefL);
+        value("#ABCDEF", 0xabcdef);
         value("1+2-3+10", 10);
         value("-1-2", -3);
         value("#FFFFFFFFFFFFFFFF+1", 0);
@@ -248,7 +252,39 @@ public final class AssembleTest {
         Kit.due("labels are told apart", Kit.bytes(mix, 256, 5), 0x0102020103L);
         Kit.due("label of LOC", mix.label(4), 268);
         Kit.due("label behind LOC", mix.label(5), 4096);
+        LittleMix odd = Kit.with(" BYTE 1", "a IS @", "b LOC @+2", "c BYTE 1");
+        Kit.due("IS doesn't go up", odd.label(0), 257);
+        Kit.due("LOC doesn't go up", odd.label(1), 257);
+        Kit.due("nor does BYTE", odd.label(2), 259);
         word(0x20010203L, " ADD  $1,$2,$3  $4");
         word(0x20010203L, "x ADD $1,$2,$3 ");
+    }
+
+    /** What stands on the tape behind the source is not read. */
+    private static void cuts() {
+        cut(" OCTA 12", 7, 1);
+        cut(" OCTA #12", 8, 1);
+        cut(" OCTA 1+2", 7, 1);
+        cut(" OCTA 1,2", 7, 1);
+        cut(" OCTA 1;", 7, 1);
+        cut(" OCTA rAb", 8, 21);
+        cut("a OCTA ab", 8, 256);
+        cut(" OCTA 'a'x", 9, 'a');
+        cut(" SWYM 5", 5, 0xfd00000000000000L);
+        cut(" SWYMS", 5, 0xfd00000000000000L);
+        cut("alone IS 1", 0, 0);
+        for (String left : new String[] {" OCTA |1", "a OCTA", " OCTA 1,|1", " OCTA 1+|1", " OCTA -|1", " OCTA #|1", " OCTA 'a|'", " OCTA '|a'", " ADD $1,$2,$|1", "lab|el IS 1", "label| IS 1"}) {
+            LittleMix mix = new LittleMix();
+            Kit.feed(mix, left.replace("|", ""));
+            int n = left.indexOf('|') < 0 ? left.length() : left.indexOf('|');
+            Kit.due(left, mix.assemble(n), 1);
+        }
+    }
+
+    private static void cut(String text, int n, long want) {
+        LittleMix mix = new LittleMix();
+        Kit.feed(mix, text);
+        Kit.due("the first " + n + " of " + text, mix.assemble(n), 0);
+        Kit.due(text, Kit.bytes(mix, 256, 8), want);
     }
 }

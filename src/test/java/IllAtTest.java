@@ -79,6 +79,11 @@ public final class IllAtTest {
         Kit.ill(160, repeated(" SWYM", 160, " BYTE 1"));
         Kit.ill(160, repeated(" BYTE 1", 161));
         Kit.ill(-1, repeated(" SWYM", 160, " IS 1", " LOC 1", "", "* x"));
+        LittleMix mix = new LittleMix();
+        for (int i = 0; i < 3; i++) {
+            Kit.due("each source has its own lines", Kit.assemble(mix, repeated(" SWYM", 100)), 0);
+            Kit.due("and its own labels", Kit.assemble(mix, repeated("? IS 1", 30)), 0);
+        }
     }
 
     private static void order() {
@@ -88,6 +93,9 @@ public final class IllAtTest {
         Kit.ill(2, " ADD $1", "a SWYM", "a SWYM");
         Kit.ill(1, " ADD $1", " ADD $256,$1,$1");
         Kit.ill(0, " ADD $1", " ADD $255+1,$1,$1");
+        Kit.ill(1, " ADD $1", " BYTE abcdefghijklm");
+        Kit.ill(1, " ADD $1", "abcdefghijklm BYTE 1");
+        Kit.ill(0, " ADD $1", " BYTE abcdefghijkl");
         Kit.ill(0, " BYTE nowhere", " ADD $nowhere,$1,$1");
         Kit.ill(2, " JMP 2", " SWYM", " LOC 4095+2");
         Kit.ill(1, " JMP 4", " JMP 2", " SWYM 256");
