@@ -1,16 +1,25 @@
+import java.util.ArrayList;
+import java.util.List;
+
 /** What the tests share: texts for the tape, and the count of wrong answers. */
 final class Kit {
     private static int wrong = 0;
     private static int asked = 0;
+    private static String sentence = "";
 
     private Kit() {
+    }
+
+    /** The document's words by which the answers from here on are due; they are told with a wrong one. */
+    static void says(String words) {
+        sentence = "\"" + words + "\": ";
     }
 
     static void due(String what, long got, long want) {
         asked++;
         if (got != want) {
             wrong++;
-            System.out.println(what + " answered " + got + ", due is " + want);
+            System.out.println(sentence + what + " answered " + got + ", due is " + want);
         }
     }
 
@@ -26,7 +35,8 @@ final class Kit {
     /** Feeds the text, filled up with bytes 0; how many bytes the text has. */
     static int feed(LittleMix mix, String text) {
         for (int i = 0; i < text.length(); i += 20) {
-            mix.feed(four(text, i), four(text, i + 4), four(text, i + 8), four(text, i + 12), four(text, i + 16));
+            boolean taken = mix.feed(four(text, i), four(text, i + 4), four(text, i + 8), four(text, i + 12), four(text, i + 16));
+            due("feeding " + text, taken, true);
         }
         return text.length();
     }
@@ -54,6 +64,25 @@ final class Kit {
     static LittleMix ran(String... lines) {
         LittleMix mix = with(lines);
         mix.run(5000);
+        return mix;
+    }
+
+    /**
+     * A new object that is about to execute the code, with the values in $0, $1 and so on.
+     * They come from 2048 on, by way of $255, for that is GLOBAL and doesn't raise rL.
+     */
+    static LittleMix loaded(long[] values, String... code) {
+        List<String> lines = new ArrayList<>();
+        lines.add(" SETL $255,2048");
+        for (int k = 0; k < values.length; k++) {
+            lines.add(" LDO $" + k + ",$255," + 8 * k);
+        }
+        lines.addAll(List.of(code));
+        LittleMix mix = with(lines.toArray(new String[0]));
+        for (int k = 0; k < values.length; k++) {
+            store(mix, 2048 + 8 * k, values[k]);
+        }
+        due("loading", mix.run(1 + values.length), 1 + values.length);
         return mix;
     }
 
