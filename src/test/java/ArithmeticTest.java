@@ -15,6 +15,23 @@ public final class ArithmeticTest {
     private static long rH;
     private static long rR;
 
+    /** What an instruction leaves; rH and rR are null if they stay. */
+    record Answer(boolean writes, long x, int event, Long rH, Long rR) {
+    }
+
+    /** The mask is rD for DIVU, rM for MUX; for NEG y is the number. */
+    static Answer answer(String name, long y, long z, long mask) {
+        rA = 0;
+        if (name.startsWith("NEG")) {
+            reckon("SUB", y, z, mask);
+            rA = name.equals("NEG") ? rA : 0;
+        } else {
+            reckon(name, y, z, mask);
+        }
+        boolean stays = name.startsWith("CS") && !isSo(name.substring(2), y);
+        return new Answer(!stays, x, (int) rA, name.equals("MULU") ? rH : null, name.startsWith("DIV") ? rR : null);
+    }
+
     public static void main(String[] args) {
         for (String name : NAMES) {
             for (int i = 0; i < NUMBERS.length; i++) {

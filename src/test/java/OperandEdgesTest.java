@@ -144,6 +144,12 @@ public final class OperandEdgesTest {
             Kit.ill(0, " ADD $1,$1,$a", "a IS " + number);
             Kit.ill(1, "a IS " + number, "b IS $a");
         }
+        // the sum would fit, but its first TERM is no register
+        Kit.ill(1, "a IS -1", " ADD $1,$1,$a+1");
+        Kit.ill(1, "a IS 256", " ADD $1,$1,$a-1");
+        Kit.ill(1, "a IS -1", "b IS $a+1");
+        Kit.ill(1, "a IS 256", "b IS $a-1");
+        Kit.ill(1, " ADD", " ADD $1,$1,$256-1");
         Kit.ill(0, " ADD $1,$1,$a", " LOC 256");
         Kit.ill(1, " SWYM", " ADD $1,$1,$a", "a SWYM");
     }

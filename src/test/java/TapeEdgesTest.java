@@ -11,6 +11,8 @@ public final class TapeEdgesTest {
         refusedAssembleChangesNothing();
         noBytes();
         cutOff();
+        nothingBehindTheCut();
+        endOfAFullTape();
         lineEnds();
         firstBytes();
         labelBytes();
@@ -174,6 +176,51 @@ public final class TapeEdgesTest {
             Kit.due("illAt, cut at " + n, mix.illAt(), illAt[n]);
             Kit.due("bytes, cut at " + n, Kit.bytes(mix, 256, 2), bytes[n]);
         }
+    }
+
+    private static void nothingBehindTheCut() {
+        Kit.says("The first n bytes of the tape are a SOURCE");
+        String text = "n IS 5\nreg IS $n-1\nx BYTE 1+n,-n+@,@+1,'a'-'b',-'''+#fF-rA,rB-rZ\n ADD reg+n,$n+1,$9-n+@-@\nnn IS n-n\n BYTE 1,2,nn\n LOC @+#10\n TRAP 1,n\n* x\nlast SWYM n\n OCTA nn+last,-last,-@,1+@,-#1";
+        for (int n = 0; n <= text.length(); n++) {
+            LittleMix mix = fed(text);
+            LittleMix alone = fed(text.substring(0, n));
+            Model model = new Model();
+            int want = model.assemble(text.substring(0, n));
+            Kit.due("cut at " + n, mix.assemble(n), want);
+            Kit.due("alone, cut at " + n, alone.assemble(n), want);
+            Kit.due("illAt, cut at " + n, mix.illAt(), model.illAt);
+            Kit.due("alone, illAt, cut at " + n, alone.illAt(), model.illAt);
+            for (int k = 0; k < 6; k++) {
+                Kit.due("label, cut at " + n, mix.label(k), k < model.told.size() ? model.told.get(k) : LittleMix.NONE);
+            }
+            for (int place = 256; place < 340; place++) {
+                Kit.due("byte, cut at " + n, mix.byteAt(place), model.byteAt(place));
+            }
+        }
+        Kit.due("all of it is good", fed(text).assemble(text.length()), 0);
+    }
+
+    /** A source that ends with the tape's last byte, in each part of a line. */
+    private static void endOfAFullTape() {
+        Kit.says("at most 1600; LINES, each ended by a byte 10 (or the end)");
+        String[] good = {"", " ", "*", " BYTE 1", " BYTE 1 ", " BYTE 1,2", " BYTE #f", " BYTE 'a'", " BYTE @", " BYTE rA", " BYTE n", " BYTE 1-1", " ADD $1,$1,$1", " ADD $n,$1,$n", " SWYM", " SWYM ", "x IS 1",
+            " BYTE 1 '", " BYTE 1 a"};
+        String[] ill = {"a", "abcdefghijklm", "a ", "a!", " B", " BYTE", " BYTE ", " BYTE 1,", " BYTE #", " BYTE '", " BYTE 'a", " BYTE ''", " BYTE 1+", " BYTE 1-", " BYTE -", " BYTE $", " BYTE $n", " BYTE abc", " ADD $1,$1,$",
+            " ADD $1,$1", " BYTE 1x", "rA SWYM", "n SWYM", "x IS", "x IS y"};
+        for (String end : good) {
+            Kit.due("at the end: " + end, filled(end).illAt(), LittleMix.NONE);
+        }
+        for (String end : ill) {
+            Kit.due("at the end: " + end, filled(end).illAt(), 2);
+        }
+    }
+
+    private static LittleMix filled(String end) {
+        LittleMix mix = new LittleMix();
+        String start = "n IS 5\n*";
+        Kit.feed(mix, start + " ".repeat(1600 - start.length() - end.length() - 1) + "\n" + end);
+        Kit.due("assemble " + end, mix.assemble(1600) != LittleMix.NONE, true);
+        return mix;
     }
 
     private static void lineEnds() {
