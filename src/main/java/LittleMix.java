@@ -933,29 +933,18 @@ public final class LittleMix {
         /** As PUT does it. */
         void put(int k, long value) {
             if (k == Specials.RG) {
-                putGlobal(value);
+                if (value >= LEAST_GLOBAL && value <= LAST && value >= local) {
+                    clearFrom(global, (int) value);
+                    global = (int) value;
+                }
             } else if (k == Specials.RL) {
-                putLocal(value);
-            } else if (k == Specials.RA) {
-                set(k, value & EVENT_BITS);
+                // a negative one is, without a sign, above all that rL can be
+                if (value >= 0 && value < local) {
+                    clearFrom((int) value, local);
+                    local = (int) value;
+                }
             } else {
-                set(k, value);
-            }
-        }
-
-        private void putGlobal(long value) {
-            if (value < LEAST_GLOBAL || value > LAST || value < local) {
-                return;
-            }
-            clearFrom(global, (int) value);
-            global = (int) value;
-        }
-
-        private void putLocal(long value) {
-            // a negative one is, without a sign, above all that rL can be
-            if (value >= 0 && value < local) {
-                clearFrom((int) value, local);
-                local = (int) value;
+                set(k, k == Specials.RA ? value & EVENT_BITS : value);
             }
         }
 
@@ -1042,10 +1031,10 @@ public final class LittleMix {
         static long difference(long y, long z, int bits) {
             long mask = -1L >>> 64 - bits;
             long x = 0;
-            for (int shift = 0; shift < 64; shift += bits) {
-                long a = y >>> shift & mask;
-                long b = z >>> shift & mask;
-                x |= (below(b, a) ? a - b : 0) << shift;
+            for (int part = 0; part < 8 && part * bits < 64; part++) {
+                long a = y >>> part * bits & mask;
+                long b = z >>> part * bits & mask;
+                x |= (below(b, a) ? a - b : 0) << part * bits;
             }
             return x;
         }

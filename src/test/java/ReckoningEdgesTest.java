@@ -86,6 +86,7 @@ public final class ReckoningEdgesTest {
         reckoned("ADD", LEAST, LEAST, 0, V);
         reckoned("ADD", LEAST, MOST, -1, 0);
         reckoned("ADD", MOST, MOST, -2, V);
+        reckoned("ADD", 0x5555555555555555L, 0x5555555555555555L, 0xaaaaaaaaaaaaaaaaL, V);
         reckoned("ADDU", MOST, 1, LEAST, 0);
         reckoned("ADDU", -1, 1, 0, 0);
         reckoned("ADDU", LEAST, LEAST, 0, 0);
@@ -103,6 +104,7 @@ public final class ReckoningEdgesTest {
         reckoned("SUB", LEAST, LEAST, 0, 0);
         reckoned("SUB", MOST, MOST, 0, 0);
         reckoned("SUB", LEAST, MOST, 1, V);
+        reckoned("SUB", 0xaaaaaaaaaaaaaaaaL, 0x5555555555555555L, 0x5555555555555555L, V);
         reckoned("SUBU", LEAST, 1, MOST, 0);
         reckoned("SUBU", 0, 1, -1, 0);
     }
@@ -129,6 +131,13 @@ public final class ReckoningEdgesTest {
         negation(255, LEAST, LEAST + 255, V);
         negation(255, MOST, LEAST + 256, 0);
         negation(0, 0, 0, 0);
+        LittleMix numbers = Kit.with(" NEG $0,0,255", " NEGU $1,0,255", " NEG $2,255,0", " NEGU $3,255,0", " NEGU $4,7", " NEG $5,255,255");
+        long[] want = {-255, -255, 255, 255, -7, 0};
+        numbers.run(want.length);
+        for (int k = 0; k < want.length; k++) {
+            Kit.due("numbers alone, $" + k, numbers.register(k), want[k]);
+        }
+        Kit.due("they always fit", numbers.special(21), 0);
     }
 
     private static void shiftsLeft() {
