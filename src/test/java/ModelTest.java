@@ -15,6 +15,8 @@ public final class ModelTest {
     private static final long[] VALUES = {0, 1, 2, 3, 5, 63, 64, 127, 128, 255, 256, 2047, 2048, 3000, 4087, 4095, 4096, 32767, 32768, 65536, Integer.MAX_VALUE, 1L << 31, 1L << 32, Long.MAX_VALUE, Long.MIN_VALUE, -1, -2,
         -128, -129, -32769, 0xff00, 0x4000, 0x8000, 0xc000};
 
+    private static final String SIGNS = " \n$#'@+-,,  rAa1n9fFgG*;\0\u00ff";
+
     private static final Random lot = new Random(20261115);
 
     public static void main(String[] args) {
@@ -54,6 +56,9 @@ public final class ModelTest {
         if (chance(odd)) {
             text.setCharAt(lot.nextInt(text.length()), (char) lot.nextInt(256));
         }
+        if (number % 10 == 3) {
+            garble(text);
+        }
         if (chance(20)) {
             text.setLength(text.length() - 1);
         }
@@ -76,6 +81,20 @@ public final class ModelTest {
         }
         compareMachines(what, mix, model, number % 7 == 0 ? lot.nextInt(60) : 0);
         return want == 0 ? 1 : 0;
+    }
+
+    private static void garble(StringBuilder text) {
+        for (int i = 1 + lot.nextInt(5); i > 0; i--) {
+            char c = SIGNS.charAt(lot.nextInt(SIGNS.length()));
+            int at = lot.nextInt(text.length());
+            if (chance(40)) {
+                text.setCharAt(at, c);
+            } else if (chance(50)) {
+                text.insert(at, c);
+            } else {
+                text.deleteCharAt(at);
+            }
+        }
     }
 
     private static String line(int odd) {
