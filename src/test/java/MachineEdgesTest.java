@@ -253,19 +253,19 @@ public final class MachineEdgesTest {
                 Kit.due("where", mix.place(), 276);
             }
         }
-        // no register is written, nor an event told
-        Supplier<LittleMix> wide = () -> Kit.loaded(new long[] {4096, 1L << 40}, " STB $1,$0,0", " LDB $9,$0,0");
-        Snapshot.same("STB", wide, () -> {
-            LittleMix mix = wide.get();
-            Kit.due("run", mix.run(1), 0);
-            return mix;
-        }, Snapshot.STOPPED);
-        Supplier<LittleMix> load = () -> Kit.loaded(new long[] {4096}, " LDB $9,$0,0");
-        Snapshot.same("LDB", load, () -> {
-            LittleMix mix = load.get();
-            Kit.due("run", mix.run(1), 0);
-            return mix;
-        }, Snapshot.STOPPED);
+        for (String name : names) {
+            // $9 is MARGINAL, and what $1 holds would be an event
+            String first = name.equals("STCO") ? "1" : name.startsWith("L") ? "$9" : "$1";
+            for (long place : new long[] {-1, 4096}) {
+                Supplier<LittleMix> outside = () -> Kit.loaded(new long[] {place, 1L << 40}, " " + name + " " + first + ",$0,0");
+                Snapshot.same(name + " at " + place, outside, () -> {
+                    LittleMix mix = outside.get();
+                    Kit.due("run", mix.run(1), 0);
+                    Kit.due("why", mix.stopped(), 4);
+                    return mix;
+                }, Snapshot.STOPPED);
+            }
+        }
     }
 
     private static void trap() {
