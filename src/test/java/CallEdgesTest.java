@@ -29,7 +29,7 @@ public final class CallEdgesTest {
         Kit.due("run", mix.run(20), 20);
         Kit.store(mix, 0, 0x0102030405060708L);
         Kit.store(mix, 4088, 0xf1f2f3f4f5f6f7f8L);
-        Kit.feed(mix, " BYTE 1,2,3,4");
+        Kit.feed(mix, "tape BYTE 1,2,3,4   ");
         return mix;
     }
 
@@ -125,14 +125,15 @@ public final class CallEdgesTest {
         Kit.due("stored by a call", mix.byteAt(4095), 0xf8);
         Kit.due("assembled", mix.byteAt(256), 227);
         Kit.due("the labels stay", mix.label(1), 292);
-        Kit.due("the tape stays", mix.assemble(20), 1);
+        Kit.due("the tape stays", mix.assemble(20), 0);
+        Kit.due("and holds what it held", Kit.bytes(mix, 256, 4), 0x01020304);
         LittleMix twice = busy();
         twice.back();
         twice.back();
         Kit.due("it runs again", twice.run(20), 20);
         Kit.due("oops", twice.taken(0), 79);
         LittleMix ill = busy();
-        Kit.due("ILL", ill.assemble(20), 1);
+        Kit.due("ILL", ill.assemble(4), 1);
         ill.back();
         Kit.due("illAt stays", ill.illAt(), 0);
     }

@@ -1,31 +1,23 @@
-import java.io.IOException;
 import java.lang.reflect.Array;
 import java.lang.reflect.Constructor;
 import java.lang.reflect.Field;
 import java.lang.reflect.Method;
 import java.lang.reflect.Modifier;
-import java.nio.file.Files;
-import java.nio.file.Path;
 import java.util.ArrayList;
 import java.util.Arrays;
 import java.util.Collections;
 import java.util.IdentityHashMap;
 import java.util.List;
 import java.util.Map;
-import java.util.regex.Pattern;
 
-/** Some of the rules of LANGUAGE.md, as far as they can be seen by a machine; the argument is the program's file. */
+/** The rules of LANGUAGE.md that the loaded classes tell: the face, how many classes and fields, the room of an object. */
 public final class LanguageTest {
     private static final String FACE = "assemble(int):int back():void byteAt(int):int feed(int,int,int,int,int):boolean illAt():int label(int):long "
             + "place():long register(int):long run(int):int special(int):long stopped():int store(int,int,int):boolean taken(int):int";
-    private static final String[] FORBIDDEN = {"\\bimport\\b", "\\bpackage\\b", "\\bthrow", "\\btry\\b", "\\bcatch\\b", "\\bsynchronized\\b", "\\bassert\\b", "\\bprotected\\b", "->", "::",
-        "Exact\\b", "\\bObject\\b", "\\bSystem\\.(?!arraycopy)", "\\bThread\\b", "\\bnative\\b", "\\bvar\\b", "\" *\\+", "\\+ *\"", "\\bLong\\.(?!compare\\b|bitCount\\b)",
-        "\\bMath\\.(?!max\\b|min\\b|floorDiv\\b|floorMod\\b)"};
 
-    public static void main(String[] args) throws IOException, IllegalAccessException {
+    public static void main(String[] args) throws IllegalAccessException {
         face();
         inside();
-        text(Files.readString(Path.of(args.length > 0 ? args[0] : "src/main/java/LittleMix.java")));
         room();
         Kit.end();
     }
@@ -35,6 +27,7 @@ public final class LanguageTest {
         for (Method method : LittleMix.class.getDeclaredMethods()) {
             if (!Modifier.isPrivate(method.getModifiers())) {
                 methods.add(signature(method));
+                Kit.due(method + " is public and nothing else", method.getModifiers(), Modifier.PUBLIC);
             }
         }
         Collections.sort(methods);
@@ -44,10 +37,13 @@ public final class LanguageTest {
         Kit.due("the methods of the face", String.join(" ", methods).equals(FACE), true);
         for (Field field : LittleMix.class.getDeclaredFields()) {
             boolean constant = field.getName().equals("NONE");
-            Kit.due("field " + field.getName(), Modifier.isPrivate(field.getModifiers()), !constant);
+            Kit.due("field " + field.getName() + " is private", Modifier.isPrivate(field.getModifiers()), !constant);
+            Kit.due("field " + field.getName() + " is public", Modifier.isPublic(field.getModifiers()), constant);
         }
         Constructor<?>[] constructors = LittleMix.class.getDeclaredConstructors();
         Kit.due("constructors", constructors.length, 1);
+        Kit.due("the constructor's parameters", constructors[0].getParameterCount(), 0);
+        Kit.due("the constructor is public", constructors[0].getModifiers(), Modifier.PUBLIC);
         Kit.due("public and final", LittleMix.class.getModifiers(), Modifier.PUBLIC | Modifier.FINAL);
     }
 
@@ -74,22 +70,6 @@ public final class LanguageTest {
             for (Method method : inner.getDeclaredMethods()) {
                 Kit.due(method + " has at most seven parameters", method.getParameterCount() <= 7, true);
                 Kit.due(method + " bears no name of the face", FACE.matches("(.* )?" + method.getName() + "\\(.*"), false);
-            }
-        }
-    }
-
-    private static void text(String text) {
-        String code = text.replaceAll("(?s)/\\*.*?\\*/", "").replaceAll("//.*", "");
-        for (String forbidden : FORBIDDEN) {
-            Kit.due(forbidden, Pattern.compile(forbidden).matcher(code).find(), false);
-        }
-        int start = 0;
-        String[] lines = text.split("\n");
-        for (int i = 0; i < lines.length; i++) {
-            if (lines[i].matches(" {4,8}[a-z].*\\) \\{")) {
-                start = i;
-            } else if (lines[i].matches(" {4,8}}")) {
-                Kit.due("the method before line " + i + " is short", i - start <= 60 || lines[i].equals("    }"), true);
             }
         }
     }

@@ -1,3 +1,4 @@
+import java.util.Arrays;
 import java.util.LinkedHashMap;
 import java.util.Map;
 import java.util.function.Supplier;
@@ -12,11 +13,13 @@ final class Snapshot {
     static final String TAPE = "tape";
 
     private static final int AT_ONCE = 256;
+    private static final int POP = 248 << 24;
+    private static final int MOST_POPS = 2;
 
     private Snapshot() {
     }
 
-    private static Map<String, Long> of(Supplier<LittleMix> way) {
+    private static Map<String, Long> of(Supplier<LittleMix> way, boolean withStack) {
         Map<String, Long> answers = new LinkedHashMap<>();
         machine(way.get(), answers);
         specials(way.get(), answers);
@@ -27,6 +30,10 @@ final class Snapshot {
             }
         }
         answers.put(TAPE, tape(way));
+        source(way, answers);
+        if (withStack) {
+            stack(way, answers);
+        }
         return answers;
     }
 
@@ -61,10 +68,38 @@ final class Snapshot {
         return length;
     }
 
-    /** All is the same both ways, but for what is left out. */
+    /** What the tape holds, as far as it is told when it becomes a SOURCE. */
+    private static void source(Supplier<LittleMix> way, Map<String, Long> answers) {
+        LittleMix mix = way.get();
+        answers.put("assemble", (long) mix.assemble((int) tape(way)));
+        answers.put("then illAt", (long) mix.illAt());
+        for (int k = 0; k <= 40; k++) {
+            answers.put("then label(" + k + ")", mix.label(k));
+        }
+        for (int place = 256; place < 512; place++) {
+            answers.put("then byteAt(" + place + ")", (long) mix.byteAt(place));
+        }
+    }
+
+    /** What the stack holds: it comes into the registers by POP 0,0, put where the machine goes on and at rJ. */
+    private static void stack(Supplier<LittleMix> way, Map<String, Long> answers) {
+        for (int pops = 1; pops <= MOST_POPS; pops++) {
+            LittleMix mix = way.get();
+            mix.store((int) mix.place() & -8, POP, POP);
+            mix.store((int) mix.special(4) & -8, POP, POP);
+            answers.put("run of " + pops + " POP", (long) mix.run(pops));
+            answers.put("then rL behind " + pops, mix.special(20));
+            for (int k = 0; k < AT_ONCE; k++) {
+                answers.put("then register(" + k + ") behind " + pops, mix.register(k));
+            }
+        }
+    }
+
+    /** All is the same both ways, but for what is left out; a machine that has stopped for good never tells its stack. */
     static void same(String what, Supplier<LittleMix> one, Supplier<LittleMix> other, String... leftOut) {
-        Map<String, Long> before = of(one);
-        Map<String, Long> after = of(other);
+        boolean withStack = !Arrays.asList(leftOut).contains(STOPPED);
+        Map<String, Long> before = of(one, withStack);
+        Map<String, Long> after = of(other, withStack);
         for (String out : leftOut) {
             before.remove(out);
             after.remove(out);

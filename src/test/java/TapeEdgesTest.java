@@ -136,7 +136,7 @@ public final class TapeEdgesTest {
     private static LittleMix busy() {
         LittleMix mix = Kit.ran("a SETL $1,7", " PUT rJ,9", " PUSHJ $2,@+4", "b TRAP 0", "c IS $3");
         Kit.due("ILL", Kit.assemble(mix, "", " NIX"), 1);
-        Kit.feed(mix, " BYTE 1,2,3,4");
+        Kit.feed(mix, "tape BYTE 1,2,3,4   ");
         return mix;
     }
 
